@@ -219,18 +219,14 @@ public final class SixtyFive {
                 case CELL_KEY_LOOK:
                     return key;
                 case CELL_KEY_TAKE:
-                    return takeKey();
+                    int taken = key;
+                    key = 0;
+                    return taken;
                 case CELL_SECTOR_NUMBER:
                     return sectorNumber;
                 default:
                     return 0;
             }
-        }
-
-        private int takeKey() {
-            int taken = key;
-            key = 0;
-            return taken;
         }
 
         /** Answers the fault that hinders the write, or FAULT_NONE when it is done. */
@@ -279,9 +275,9 @@ public final class SixtyFive {
         private int overflow;
         private int zero;
         private int carry;
-        // Of the instruction at hand: its bytes b and h, and the pc that it leads to.
+        // Of the instruction at hand: its byte b, the address E, and the pc that it leads to.
         private int b;
-        private int h;
+        private int e;
         private int nextPc;
 
         private Processor() {
@@ -356,7 +352,18 @@ public final class SixtyFive {
                 return FAULT_UNKNOWN;
             }
             fetch(mode);
-            int fault = execute(code, mode);
+            int fault;
+            switch (code % 4) {
+                case 1:
+                    fault = executeG1(code / 32, mode);
+                    break;
+                case 2:
+                    fault = executeG2(code / 32, mode);
+                    break;
+                default:
+                    fault = executeG0(code, mode);
+                    break;
+            }
             if (fault == FAULT_NONE) {
                 pc = nextPc;
             }
@@ -381,7 +388,8 @@ public final class SixtyFive {
         private void fetch(int mode) {
             int size = bytesBehind(mode);
             b = size >= 1 ? board.readByte(pc + 1) : 0;
-            h = size >= 2 ? board.readByte(pc + 2) : 0;
+            int word = size >= 2 ? b + 256 * board.readByte(pc + 2) : b;
+            e = address(place(mode, word));
             nextPc = address(pc + 1 + size);
         }
 
@@ -403,33 +411,28 @@ public final class SixtyFive {
             return number & (ADDRESSES - 1);
         }
 
-        private int word() {
-            return b + 256 * h;
-        }
-
-        private int wordAtZero(int place) {
-            return board.readByte(place) + 256 * board.readByte((place + 1) & 255);
-        }
-
-        private int place(int mode) {
+        private int place(int mode, int word) {
             switch (mode) {
                 case INX:
-                    return address(wordAtZero((b + x) & 255));
+                    return wordAtZero((b + x) & 255);
                 case INY:
-                    return address(wordAtZero(b) + y);
+                    return wordAtZero(b) + y;
                 case ZEROX:
                     return (b + x) & 255;
                 case ZEROY:
                     return (b + y) & 255;
-                case WIDE:
-                    return address(word());
                 case WIDEX:
-                    return address(word() + x);
+                    return word + x;
                 case WIDEY:
-                    return address(word() + y);
+                    return word + y;
                 default:
-                    return b;
+                    return word;
             }
+        }
+
+        // No address below 256 is a cell, so that the plain bytes are what a read would answer.
+        private int wordAtZero(int at) {
+            return board.memory[at & 255] + 256 * board.memory[(at + 1) & 255];
         }
 
         private int operand(int mode) {
@@ -439,24 +442,12 @@ public final class SixtyFive {
             if (mode == SELF) {
                 return a;
             }
-            return board.readByte(place(mode));
-        }
-
-        private int execute(int code, int mode) {
-            int k = code / 32;
-            switch (code % 4) {
-                case 1:
-                    return executeG1(k, mode);
-                case 2:
-                    return executeG2(k, mode);
-                default:
-                    return executeG0(code, mode);
-            }
+            return board.readByte(e);
         }
 
         private int executeG1(int k, int mode) {
             if (k == 4) {
-                return board.writeByte(place(mode), a);
+                return board.writeByte(e, a);
             }
             int operand = operand(mode);
             switch (k) {
@@ -512,7 +503,7 @@ public final class SixtyFive {
                 s = x;
                 return FAULT_NONE;
             }
-            return board.writeByte(place(mode), x);
+            return board.writeByte(e, x);
         }
 
         private int change(int k, int mode) {
@@ -521,7 +512,7 @@ public final class SixtyFive {
             if (mode == SELF) {
                 a = after;
             } else {
-                int fault = board.writeByte(place(mode), after);
+                int fault = board.writeByte(e, after);
                 if (fault != FAULT_NONE) {
                     return fault;
                 }
@@ -567,7 +558,7 @@ public final class SixtyFive {
                 return FAULT_NONE;
             }
             if (k == 4) {
-                return board.writeByte(place(mode), y);
+                return board.writeByte(e, y);
             }
             executeOperandG0(k, operand(mode));
             return FAULT_NONE;
@@ -595,8 +586,8 @@ public final class SixtyFive {
         private void jump(int code) {
             if (code == CODE_JUMP_THROUGH) {
                 // Low byte first: at 1008 both bytes are the key, and the second read takes it.
-                int low = board.readByte(word());
-                nextPc = address(low + 256 * board.readByte(word() + 1));
+                int low = board.readByte(e);
+                nextPc = address(low + 256 * board.readByte(e + 1));
                 return;
             }
             if (code == CODE_CALL) {
@@ -604,7 +595,7 @@ public final class SixtyFive {
                 push(last / 256);
                 push(last % 256);
             }
-            nextPc = address(word());
+            nextPc = e;
         }
 
         private void branch(int k) {

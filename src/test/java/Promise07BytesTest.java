@@ -115,13 +115,16 @@ public final class Promise07BytesTest {
             {0xBA, Rig.S, Rig.X}};
         for (int[] move : moves) {
             step(move[0], 0, move[1], p, 0xC3);
+            machine.put(move[2], 255 - p);
             ends("code " + move[0], move[2], p, nz(p) + 0x41);
             Check.equal("its source stays", machine.get(move[1]), p);
         }
-        step(0x9A, 0, Rig.X, p, 0xC3);
-        ends("TXS", Rig.S, p, 0xC3);
-        step(0x9A, 0, Rig.X, p, 0);
-        ends("TXS", Rig.S, p, 0);
+        int[] flags = {0, 0xC3};
+        for (int before : flags) {
+            step(0x9A, 0, Rig.X, p, before);
+            machine.put(Rig.S, 255 - p);
+            ends("TXS", Rig.S, p, before);
+        }
         // Code, its register, by how much it moves.
         int[][] steps = {{0xCA, Rig.X, 255}, {0xE8, Rig.X, 1}, {0x88, Rig.Y, 255}, {0xC8, Rig.Y, 1}};
         for (int[] one : steps) {

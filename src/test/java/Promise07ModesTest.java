@@ -8,6 +8,7 @@ public final class Promise07ModesTest {
         inx();
         iny();
         next();
+        changesInPlace();
         Check.finish();
     }
 
@@ -111,5 +112,30 @@ public final class Promise07ModesTest {
                         48 + 64 + 1 + (value == 0 ? 2 : 0) + (value >= 128 ? 128 : 0));
             }
         }
+    }
+
+    // ASL, ROL, LSR, ROR, DEC, INC in each of their modes, with X 0x20 and C 1, on the byte 0x42.
+    private static void changesInPlace() {
+        int[] ks = {0, 1, 2, 3, 6, 7};
+        int[] due = {0x84, 0x85, 0x21, 0xA1, 0x41, 0x43};
+        for (int i = 0; i < ks.length; i++) {
+            int code = ks[i] * 32 + 2;
+            changes(code + 4, 0xF0, 0x03, 0xF0, due[i]);
+            changes(code + 12, 0xF0, 0x02, 0x2F0, due[i]);
+            changes(code + 20, 0xF0, 0x03, 0x10, due[i]);
+            changes(code + 28, 0xF0, 0x02, 0x310, due[i]);
+            changes(code + 28, 0xF0, 0xFF, 0x10, due[i]);
+        }
+    }
+
+    private static void changes(int code, int b, int h, int address, int due) {
+        SixtyFive machine = Rig.with(code, b, h);
+        machine.put(Rig.X, 0x20);
+        machine.put(Rig.Y, 0x07);
+        machine.put(Rig.FLAGS, 1);
+        machine.load(address, 0x42, 1);
+        machine.run(1);
+        Check.equal("code " + code + " at " + address, machine.peek(address), due);
+        Check.equal("code " + code + " leaves A", machine.get(Rig.A), 0);
     }
 }
