@@ -1,50 +1,105 @@
 /** Promise 3: insert. */
 public final class Promise03InsertTest {
+    private static final long BYTES = 0xF1E2D3C4B5A69788L;
+    private static final int[] EACH = {0xF1, 0xE2, 0xD3, 0xC4, 0xB5, 0xA6, 0x97, 0x88};
+
     public static void main(String[] args) {
-        ordinary();
-        edges();
-        wrong();
+        sectors();
+        places();
+        counts();
+        notBehind();
+        lowestBytes();
+        answers();
+        nothingElse();
         Check.finish();
     }
 
-    private static void ordinary() {
+    private static void sectors() {
+        Check.sentence("sector 0 .. 7");
         SixtyFive machine = new SixtyFive();
-        Check.equal("insert(2, 10, 0x0A0B0C, 3)", machine.insert(2, 10, 0x0A0B0CL, 3), 13);
-        Check.equal("the highest first", machine.sector(2, 10), 10);
-        Check.equal("the next", machine.sector(2, 11), 11);
-        Check.equal("the lowest last", machine.sector(2, 12), 12);
-        Check.equal("none before", machine.sector(2, 9), 0);
-        Check.equal("none behind", machine.sector(2, 13), 0);
-        Check.equal("not in another sector", machine.sector(3, 10), 0);
-        Check.equal("no memory changes", machine.peek(778), 0);
-        Check.equal("only the lowest bytes", machine.insert(2, 20, 0x123456789ABCDEF0L, 2), 22);
-        Check.equal("the last but one", machine.sector(2, 20), 0xDE);
-        Check.equal("the last", machine.sector(2, 21), 0xF0);
+        Check.equal("insert(0, 5, 9, 1)", machine.insert(0, 5, 9, 1), 6);
+        Check.equal("sector(0, 5)", machine.sector(0, 5), 9);
+        Check.equal("insert(7, 5, 8, 1)", machine.insert(7, 5, 8, 1), 6);
+        Check.equal("sector(7, 5)", machine.sector(7, 5), 8);
+        int[] wrong = {-1, 8, 9, 255, 0x08000000, Integer.MAX_VALUE, Integer.MIN_VALUE};
+        for (int sector : wrong) {
+            Check.refuses("insert(" + sector + ", 0, -1, 1)", m -> m.insert(sector, 0, -1L, 1));
+        }
     }
 
-    private static void edges() {
-        for (int sector = 0; sector < 8; sector++) {
-            SixtyFive machine = new SixtyFive();
-            Check.equal("at 0", machine.insert(sector, 0, -1L, 8), 8);
-            Check.equal("up to 31", machine.insert(sector, 24, 0x8182838485868788L, 8), 32);
-            Check.equal("at 31", machine.insert(sector, 31, 77, 1), 32);
-            for (int other = 0; other < 8; other++) {
-                Check.equal("first byte of " + other, machine.sector(other, 0), other == sector ? 255 : 0);
-                Check.equal("byte 24 of " + other, machine.sector(other, 24), other == sector ? 0x81 : 0);
-                Check.equal("last byte of " + other, machine.sector(other, 31), other == sector ? 77 : 0);
+    private static void places() {
+        Check.sentence("at 0 .. 31");
+        SixtyFive machine = new SixtyFive();
+        Check.equal("insert(3, 0, 9, 1)", machine.insert(3, 0, 9, 1), 1);
+        Check.equal("sector(3, 0)", machine.sector(3, 0), 9);
+        Check.equal("insert(3, 31, 8, 1)", machine.insert(3, 31, 8, 1), 32);
+        Check.equal("sector(3, 31)", machine.sector(3, 31), 8);
+        int[] wrong = {-1, -32, 32, 33, 255, Integer.MAX_VALUE, Integer.MIN_VALUE};
+        for (int at : wrong) {
+            Check.refuses("insert(3, " + at + ", -1, 1)", m -> m.insert(3, at, -1L, 1));
+        }
+    }
+
+    private static void counts() {
+        Check.sentence("likewise");
+        SixtyFive machine = new SixtyFive();
+        Check.equal("insert(3, 4, 5, 1)", machine.insert(3, 4, 5, 1), 5);
+        Check.equal("insert(3, 4, 5, 8)", machine.insert(3, 4, 5, 8), 12);
+        int[] wrong = {0, -1, 9, 32, Integer.MAX_VALUE, Integer.MIN_VALUE};
+        for (int count : wrong) {
+            Check.refuses("insert(3, 4, -1, " + count + ")", m -> m.insert(3, 4, -1L, count));
+        }
+    }
+
+    private static void notBehind() {
+        Check.sentence("likewise, not behind 31");
+        for (int count = 1; count <= 8; count++) {
+            int size = count;
+            int last = 32 - count;
+            for (int sector = 0; sector <= 7; sector += 7) {
+                SixtyFive machine = new SixtyFive();
+                Check.equal("insert(" + sector + ", " + last + ", -1, " + count + ")",
+                        machine.insert(sector, last, -1L, count), 32);
+                Check.equal("its first byte", machine.sector(sector, last), 255);
+                Check.equal("its last byte", machine.sector(sector, 31), 255);
+                Check.equal("none before", machine.sector(sector, last - 1), 0);
+                Check.equal("none around at 0", machine.sector(sector, 0), 0);
             }
-            Check.equal("the chosen sector stays", machine.get(Rig.SECTOR), 0);
+            Check.refuses("insert(0, " + (last + 1) + ", -1, " + count + ")", m -> m.insert(0, last + 1, -1L, size));
+            Check.refuses("insert(7, " + (last + 1) + ", -1, " + count + ")", m -> m.insert(7, last + 1, -1L, size));
+        }
+        Check.refuses("insert(0, 2147483647, -1, 8)", m -> m.insert(0, Integer.MAX_VALUE, -1L, 8));
+        Check.refuses("insert(1, -8, -1, 8)", m -> m.insert(1, -8, -1L, 8));
+    }
+
+    private static void lowestBytes() {
+        Check.sentence("likewise");
+        for (int sector = 0; sector < 8; sector++) {
+            for (int count = 1; count <= 8; count++) {
+                SixtyFive machine = new SixtyFive();
+                machine.insert(sector, 24, BYTES, count);
+                int[] due = new int[Rig.DRIVE];
+                System.arraycopy(EACH, 8 - count, due, sector * 32 + 24, count);
+                Check.same("the drive after insert(" + sector + ", 24, .., " + count + ")",
+                        Rig.text(Rig.drive(() -> machine)), Rig.text(due));
+            }
         }
     }
 
-    private static void wrong() {
+    private static void answers() {
+        Check.sentence("Answers the place behind.");
         SixtyFive machine = new SixtyFive();
-        int[][] rows = {{-1, 0, 1}, {8, 0, 1}, {0, -1, 1}, {0, 32, 1}, {0, 31, 2}, {0, 25, 8}, {0, 0, 0}, {0, 0, 9},
-            {0, 0, -1}, {7, 31, 2}, {Integer.MAX_VALUE, 0, 1}, {Integer.MIN_VALUE, 0, 1}, {0, Integer.MAX_VALUE, 8},
-            {0, Integer.MIN_VALUE, 8}, {0, 1, Integer.MAX_VALUE}, {0x08000000, 0, 1}};
-        for (int[] row : rows) {
-            Check.refuses("insert(" + row[0] + ", " + row[1] + ", -1, " + row[2] + ")", machine,
-                    () -> machine.insert(row[0], row[1], -1L, row[2]));
-        }
+        Check.equal("insert(0, 0, 0, 1)", machine.insert(0, 0, 0, 1), 1);
+        Check.equal("insert(5, 10, 0, 3)", machine.insert(5, 10, 0, 3), 13);
+        Check.equal("insert(7, 24, 0, 8): behind the last", machine.insert(7, 24, 0, 8), 32);
+    }
+
+    private static void nothingElse() {
+        Check.sentence("`int insert(int sector, int at, long bytes, int count) throws IllegalArgumentException`");
+        SixtyFive machine = Rig.used();
+        String before = Rig.registers(machine);
+        machine.insert(2, 0, -1L, 8);
+        Check.same("no register moves, SECTOR 6 is still the one", Rig.registers(machine), before);
+        Check.equal("no MEMORY changes", machine.peek(768), Rig.used().peek(768));
     }
 }

@@ -1,7 +1,7 @@
 /** Promise 7: sums, comparisons, bit patterns and changes in place, over all bytes. */
 public final class Promise07BytesTest {
-    // An object is good for 512 calls, and each use makes up to eight.
-    private static final int USES = 60;
+    // An object is good for 512 calls, and each use makes up to nine.
+    private static final int USES = 50;
     private static SixtyFive machine;
     private static int used = USES;
 

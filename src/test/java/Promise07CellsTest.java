@@ -1,189 +1,285 @@
-/** Promise 7: the key and the drive as a program reads and writes them. */
+import java.util.function.Supplier;
+
+/** Promise 7: what a program READs and WRITES at the CELLS, the key and the drive. */
 public final class Promise07CellsTest {
     public static void main(String[] args) {
-        readingTheKey();
-        onlyUsedOperandsAreRead();
-        changingCells();
-        choosingSectors();
-        readingAndWritingSectors();
-        emptyCells();
-        keyTakenBeforeAFault();
+        firstCell();
+        lookingAtTheKey();
+        takingTheKey();
+        everyOperandIsRead();
+        readingTheNumber();
+        readingOtherCells();
+        choosingASector();
+        changingTheNumber();
+        readingASector();
+        writingASector();
+        writingOtherCells();
+        changingOtherCells();
         Check.finish();
     }
 
-    private static SixtyFive on(int code, int address) {
-        return Rig.with(code, address % 256, address / 256);
+    /** A machine with a KEY, a full drive and memory, SECTOR 6 and this instruction at its PC. */
+    private static SixtyFive full(int code, int word) {
+        SixtyFive machine = Rig.used();
+        machine.protect(false);
+        Rig.bytes(machine, 512, code, word % 256, word / 256);
+        machine.put(Rig.PC, 512);
+        return machine;
     }
 
-    private static void readingTheKey() {
-        SixtyFive machine = Rig.with(0xAD, 0xF0, 0x03, 0xAE, 0xF1, 0x03, 0xAC, 0xF1, 0x03, 0xAD, 0xF0, 0x03);
-        machine.press(0);
+    private static int read(SixtyFive machine, int address) {
+        Rig.bytes(machine, 512, 0xAD, address % 256, address / 256);
+        machine.put(Rig.PC, 512);
         machine.run(1);
-        Check.equal("1008 is the KEY", machine.get(Rig.A), 128);
-        Check.equal("which stays", machine.get(Rig.KEY), 128);
-        machine.run(1);
-        Check.equal("1009 is the KEY", machine.get(Rig.X), 128);
-        Check.equal("which is gone", machine.get(Rig.KEY), 0);
-        machine.put(Rig.Y, 5);
-        machine.run(2);
-        Check.equal("1009 without a KEY", machine.get(Rig.Y), 0);
-        Check.equal("1008 without a KEY", machine.get(Rig.A), 0);
-        // ORA, AND, EOR, ADC, LDA, CMP, SBC, BIT, CPY, CPX, LDX, LDY at 1009 all use their OPERAND.
-        int[] codes = {0x0D, 0x2D, 0x4D, 0x6D, 0xAD, 0xCD, 0xED, 0x2C, 0xCC, 0xEC, 0xAE, 0xAC};
+        return machine.get(Rig.A);
+    }
+
+    private static void firstCell() {
+        Check.sentence("1008 .. 1023 are CELLS");
+        SixtyFive machine = new SixtyFive();
+        machine.press(5);
+        machine.load(1007, 9, 1);
+        machine.load(0, 8, 1);
+        Check.equal("1007 is a byte", read(machine, 1007), 9);
+        Check.equal("1008 is a CELL", read(machine, 1008), 133);
+        Check.equal("1023 is one", read(machine, 1023), 0);
+        Check.equal("1024 is the byte at 0", read(machine, 1024), 8);
+    }
+
+    private static void lookingAtTheKey() {
+        Check.sentence("1008: the KEY, 128 plus a code 0 .. 127, or 0 without one");
+        SixtyFive without = new SixtyFive();
+        without.put(Rig.A, 5);
+        Check.equal("without one", read(without, 1008), 0);
+        Check.equal("Z is 1", without.get(Rig.FLAGS), Rig.ONES + Rig.Z_BIT);
+        int[] codes = {0, 1, 126, 127};
         for (int code : codes) {
-            SixtyFive each = on(code, 1009);
-            each.press(1);
-            each.run(1);
-            Check.equal("code " + code + " takes the KEY", each.get(Rig.KEY), 0);
+            SixtyFive machine = new SixtyFive();
+            machine.press(code);
+            Check.equal("KEY " + code, read(machine, 1008), 128 + code);
+            Check.equal("N is 1", machine.get(Rig.FLAGS), Rig.ONES + Rig.N_BIT);
+            Check.equal("it stays", machine.get(Rig.KEY), 128 + code);
+            Check.equal("and is READ again", read(machine, 1008), 128 + code);
         }
     }
 
-    private static void onlyUsedOperandsAreRead() {
-        // STA, STX, STY, JMP and JSR have 1009 as their address and read nothing there.
-        int[] codes = {0x8D, 0x8E, 0x8C, 0x4C, 0x20};
+    private static void takingTheKey() {
+        Check.sentence("1009: the KEY, and there is none any more");
+        SixtyFive without = new SixtyFive();
+        without.put(Rig.A, 5);
+        Check.equal("without one", read(without, 1009), 0);
+        Check.equal("still none", without.get(Rig.KEY), 0);
+        int[] codes = {0, 1, 126, 127};
         for (int code : codes) {
-            SixtyFive machine = on(code, 1009);
+            SixtyFive machine = new SixtyFive();
+            machine.press(code);
+            Check.equal("KEY " + code, read(machine, 1009), 128 + code);
+            Check.equal("none any more", machine.get(Rig.KEY), 0);
+            Check.equal("READ again", read(machine, 1009), 0);
+            Check.equal("nor at 1008", read(machine, 1008), 0);
+            Check.equal("another may be pressed", machine.press(127 - code), 255 - code);
+            Check.equal("and is READ", read(machine, 1008), 255 - code);
+        }
+    }
+
+    private static void everyOperandIsRead() {
+        Check.sentence("For others the OPERAND is what is READ at E (only if it is used).");
+        // ORA, AND, EOR, ADC, LDA, CMP, SBC, BIT, CPY, CPX, LDX, LDY use their OPERAND.
+        int[] users = {0x0D, 0x2D, 0x4D, 0x6D, 0xAD, 0xCD, 0xED, 0x2C, 0xCC, 0xEC, 0xAE, 0xAC};
+        for (int code : users) {
+            SixtyFive machine = Rig.wide(code, 1009);
+            machine.press(1);
+            machine.run(1);
+            Check.equal("code " + code + " takes the KEY", machine.get(Rig.KEY), 0);
+        }
+        // STA, STX, STY, JMP and JSR have 1009 as their address and use nothing there.
+        int[] others = {0x8D, 0x8E, 0x8C, 0x4C, 0x20};
+        for (int code : others) {
+            SixtyFive machine = Rig.wide(code, 1009);
             machine.press(1);
             Check.equal("code " + code, Rig.step(machine), 0);
             Check.equal("code " + code + " leaves the KEY", machine.get(Rig.KEY), 129);
         }
     }
 
-    private static void changingCells() {
-        SixtyFive key = on(0xEE, 1009);
-        key.press(127);
-        Check.equal("INC 1009", key.run(1), 515);
-        Check.equal("takes the KEY", key.get(Rig.KEY), 0);
-        Check.equal("255 plus 1 is 0", key.get(Rig.FLAGS), 48 + 2);
-        SixtyFive look = on(0x0E, 1008);
+    private static void readingTheNumber() {
+        Check.sentence("1010: the SECTOR's number");
+        SixtyFive machine = new SixtyFive();
+        machine.put(Rig.A, 9);
+        Check.equal("at first", read(machine, 1010), 0);
+        for (int number = 7; number >= 0; number--) {
+            // STX 1010
+            Rig.bytes(machine, 600, 0x8E, 0xF2, 0x03);
+            machine.put(Rig.PC, 600);
+            machine.put(Rig.X, number);
+            machine.run(1);
+            Check.equal("after STX 1010", read(machine, 1010), number);
+            Check.equal("it stays", machine.get(Rig.SECTOR), number);
+        }
+    }
+
+    private static void readingOtherCells() {
+        Check.sentence("other CELLS: 0");
+        for (int cell = 1011; cell <= 1023; cell++) {
+            int address = cell;
+            Supplier<SixtyFive> readIt = () -> {
+                SixtyFive machine = full(0xAD, address);
+                Check.equal("LDA " + address, machine.run(1), 515);
+                return machine;
+            };
+            Check.equal("A after LDA " + cell, readIt.get().get(Rig.A), 0);
+            Check.equal("the KEY stays", readIt.get().get(Rig.KEY), 205);
+            Check.same("and no byte moves", Rig.kept(readIt), Rig.kept(() -> full(0xAD, address)));
+        }
+    }
+
+    private static void choosingASector() {
+        Check.sentence("1010: the SECTOR's number, 0 .. 7; 8 or above: FAULT 3");
+        int[] codes = {0x8D, 0x8E, 0x8C};
+        for (int register = 0; register < 3; register++) {
+            for (int value = 0; value <= 255; value++) {
+                SixtyFive machine = Rig.wide(codes[register], 1010);
+                machine.put(register, value);
+                Check.equal("WRITE " + value, Rig.step(machine), value < 8 ? 0 : 3);
+                Check.equal("the number", machine.get(Rig.SECTOR), value < 8 ? value : 0);
+                Check.equal("PC", machine.get(Rig.PC), value < 8 ? 515 : 512);
+            }
+        }
+        int[] wrong = {8, 9, 128, 255};
+        for (int value : wrong) {
+            Check.faults("STA 1010 with " + value, () -> {
+                SixtyFive machine = full(0x8D, 1010);
+                machine.put(Rig.A, value);
+                return machine;
+            }, 3);
+        }
+    }
+
+    private static void changingTheNumber() {
+        Check.sentence("8 or above: FAULT 3");
+        // Code, C before, the number before, the number after or the FAULT below 0.
+        int[][] rows = {{0xEE, 0, 6, 7}, {0xEE, 0, 7, -3}, {0xCE, 0, 1, 0}, {0xCE, 0, 0, -3}, {0x0E, 0, 3, 6},
+            {0x0E, 0, 4, -3}, {0x2E, 1, 3, 7}, {0x2E, 0, 4, -3}, {0x2E, 1, 4, -3}, {0x4E, 1, 7, 3}, {0x4E, 0, 1, 0},
+            {0x6E, 0, 7, 3}, {0x6E, 1, 7, -3}, {0x6E, 1, 0, -3}};
+        for (int[] row : rows) {
+            String what = "code " + row[0] + " on 1010 with C " + row[1] + " and number " + row[2];
+            Supplier<SixtyFive> maker = () -> {
+                SixtyFive machine = Rig.with(0x8D, 0xF2, 0x03, row[0], 0xF2, 0x03);
+                machine.put(Rig.A, row[2]);
+                machine.run(1);
+                machine.put(Rig.FLAGS, row[1]);
+                return machine;
+            };
+            if (row[3] < 0) {
+                Check.faults(what, maker, -row[3]);
+            } else {
+                SixtyFive machine = maker.get();
+                Check.equal(what, Rig.step(machine), 0);
+                Check.equal(what, machine.get(Rig.SECTOR), row[3]);
+            }
+        }
+    }
+
+    private static void readingASector() {
+        Check.sentence("1011: the SECTOR is read into MEMORY 768 .. 799");
+        int[] values = {0, 1, 255};
+        for (int number = 0; number < 8; number++) {
+            for (int value : values) {
+                Supplier<SixtyFive> after = moved(1011, number, value);
+                int[] due = Rig.memory(prepared(1011, number, value));
+                int[] drive = Rig.drive(prepared(1011, number, value));
+                System.arraycopy(drive, number * 32, due, 768, 32);
+                Check.same("memory with SECTOR " + number, Rig.text(Rig.memory(after)), Rig.text(due));
+                Check.same("the drive stays", Rig.text(Rig.drive(after)), Rig.text(drive));
+            }
+        }
+    }
+
+    private static void writingASector() {
+        Check.sentence("1012: those 32 bytes are written into the SECTOR");
+        int[] values = {0, 1, 255};
+        for (int number = 0; number < 8; number++) {
+            for (int value : values) {
+                Supplier<SixtyFive> after = moved(1012, number, value);
+                int[] memory = Rig.memory(prepared(1012, number, value));
+                int[] due = Rig.drive(prepared(1012, number, value));
+                System.arraycopy(memory, 768, due, number * 32, 32);
+                Check.same("the drive with SECTOR " + number, Rig.text(Rig.drive(after)), Rig.text(due));
+                Check.same("the memory stays", Rig.text(Rig.memory(after)), Rig.text(memory));
+            }
+        }
+    }
+
+    /** A full machine with this SECTOR, at an STA of the value to the CELL. */
+    private static Supplier<SixtyFive> prepared(int cell, int number, int value) {
+        return () -> {
+            SixtyFive machine = full(0x8E, 1010);
+            Rig.bytes(machine, 515, 0x8D, cell % 256, cell / 256);
+            machine.put(Rig.X, number);
+            machine.put(Rig.A, value);
+            // PROTECTED hinders neither way: 768 .. 799 are open.
+            machine.protect(true);
+            machine.run(1);
+            return machine;
+        };
+    }
+
+    private static Supplier<SixtyFive> moved(int cell, int number, int value) {
+        Supplier<SixtyFive> before = prepared(cell, number, value);
+        return () -> {
+            SixtyFive machine = before.get();
+            int[] due = Rig.row(machine);
+            Check.equal("STA " + cell, machine.run(1), 518);
+            due[Rig.PC] = 518;
+            due[Rig.DONE]++;
+            Check.same("nothing else moves", Rig.registers(machine), Rig.text(due));
+            return machine;
+        };
+    }
+
+    private static void writingOtherCells() {
+        Check.sentence("others: nothing");
+        int[] cells = {1008, 1009, 1013, 1014, 1015, 1016, 1017, 1018, 1019, 1020, 1021, 1022, 1023};
+        for (int cell : cells) {
+            Supplier<SixtyFive> before = () -> full(0x8D, cell);
+            Supplier<SixtyFive> after = () -> {
+                SixtyFive machine = before.get();
+                Check.equal("STA " + cell, Rig.step(machine), 0);
+                return machine;
+            };
+            int[] due = Rig.row(before.get());
+            due[Rig.PC] = 515;
+            due[Rig.DONE]++;
+            Check.same("registers, KEY and number after STA " + cell, Rig.registers(after.get()), Rig.text(due));
+            Check.same("all bytes after STA " + cell, Rig.kept(after), Rig.kept(before));
+        }
+        SixtyFive without = Rig.wide(0x8D, 1008);
+        without.put(Rig.A, 200);
+        without.run(1);
+        Check.equal("a WRITE of 1008 makes no KEY", without.get(Rig.KEY), 0);
+    }
+
+    private static void changingOtherCells() {
+        Check.sentence("It is READ, then WRITTEN at E");
+        SixtyFive taken = Rig.wide(0xEE, 1009);
+        taken.press(127);
+        Check.equal("INC 1009", taken.run(1), 515);
+        Check.equal("takes the KEY and writes nothing", taken.get(Rig.KEY), 0);
+        Check.equal("255 plus 1 is 0", taken.get(Rig.FLAGS), Rig.ONES + Rig.Z_BIT);
+        SixtyFive look = Rig.wide(0x0E, 1008);
         look.press(3);
         look.run(1);
         Check.equal("ASL 1008 leaves the KEY", look.get(Rig.KEY), 131);
-        Check.equal("C is its bit 7", look.get(Rig.FLAGS), 48 + 1);
-        SixtyFive sector = on(0xEE, 1010);
-        for (int number = 1; number <= 7; number++) {
-            sector.put(Rig.PC, 512);
-            sector.run(1);
-            Check.equal("INC 1010", sector.get(Rig.SECTOR), number);
-        }
-        sector.put(Rig.PC, 512);
-        sector.put(Rig.FLAGS, 0xC3);
-        Check.equal("INC 1010 from 7", Rig.step(sector), 3);
-        Check.equal("the number stays", sector.get(Rig.SECTOR), 7);
-        Check.equal("the flags stay", sector.get(Rig.FLAGS), 0xF3);
-        SixtyFive down = on(0xCE, 1010);
-        Check.equal("DEC 1010 from 0", Rig.step(down), 3);
-        SixtyFive half = Rig.with(0x4E, 0xF2, 0x03);
-        half.load(600, 0x8DF203L, 3);
-        half.put(Rig.PC, 600);
-        half.put(Rig.A, 7);
-        half.run(1);
-        half.put(Rig.PC, 512);
-        half.run(1);
-        Check.equal("LSR 1010 from 7", half.get(Rig.SECTOR), 3);
-        Check.equal("C is bit 0", half.get(Rig.FLAGS), 48 + 1);
-    }
-
-    private static void choosingSectors() {
-        for (int value = 0; value <= 255; value++) {
-            SixtyFive machine = Rig.with(0x8E, 0xF2, 0x03, 0xAC, 0xF2, 0x03);
-            machine.put(Rig.X, value);
-            Check.equal("STX 1010 of " + value, Rig.step(machine), value < 8 ? 0 : 3);
-            Check.equal("get(8)", machine.get(Rig.SECTOR), value < 8 ? value : 0);
-            if (value < 8) {
-                machine.run(1);
-                Check.equal("READ at 1010", machine.get(Rig.Y), value);
-            }
-        }
-    }
-
-    private static void readingAndWritingSectors() {
-        for (int number = 0; number < 8; number++) {
-            // STX 1010, STA 1011, STA 1012 behind a change of two bytes.
-            SixtyFive machine = Rig.with(0x8E, 0xF2, 0x03, 0x8D, 0xF3, 0x03, 0x8D, 0xF4, 0x03);
-            for (int sector = 0; sector < 8; sector++) {
-                for (int at = 0; at < 32; at++) {
-                    machine.insert(sector, at, sector * 32 + at, 1);
-                }
-            }
-            machine.load(767, 0xEE, 1);
-            machine.load(800, 0xDD, 1);
-            machine.put(Rig.X, number);
-            machine.put(Rig.A, 3);
-            Check.equal("read a sector", machine.run(2), 518);
-            for (int at = 0; at < 32; at++) {
-                Check.equal("byte " + at + " of " + number, machine.peek(768 + at), number * 32 + at);
-            }
-            Check.equal("not before", machine.peek(767), 0xEE);
-            Check.equal("not behind", machine.peek(800), 0xDD);
-            String drive = Rig.drive(machine);
-            machine.run(1);
-            Check.same("written back the same", Rig.drive(machine), drive);
-        }
-        writingEverySector();
-    }
-
-    private static void writingEverySector() {
-        for (int number = 0; number < 8; number++) {
-            SixtyFive machine = Rig.with(0x8E, 0xF2, 0x03, 0x8D, 0xF4, 0x03);
-            for (int at = 0; at < 32; at++) {
-                machine.load(768 + at, at + 1, 1);
-            }
-            machine.put(Rig.X, number);
-            machine.protect(true);
-            machine.run(2);
-            for (int sector = 0; sector < 8; sector++) {
-                for (int at = 0; at < 32; at++) {
-                    Check.equal("sector " + sector + " at " + at, machine.sector(sector, at),
-                            sector == number ? at + 1 : 0);
-                }
-            }
-            Check.equal("memory stays", machine.peek(799), 32);
-        }
-    }
-
-    private static void emptyCells() {
-        for (int address = 1008; address < 1024; address++) {
-            if (address >= 1010 && address <= 1012) {
-                continue;
-            }
-            SixtyFive machine = Rig.with(0x8D, address % 256, 3, 0xAE, address % 256, 3);
-            machine.put(Rig.A, 255);
-            machine.put(Rig.X, 9);
-            String memory = Rig.memory(machine);
-            Check.equal("STA " + address, Rig.step(machine), 0);
-            Check.same("nothing is written", Rig.memory(machine), memory);
-            machine.run(1);
-            Check.equal("READ " + address, machine.get(Rig.X), 0);
-            Check.equal("no KEY", machine.get(Rig.KEY), 0);
-            Check.equal("no SECTOR", machine.get(Rig.SECTOR), 0);
-        }
-        int[] commands = {1011, 1012};
-        for (int address : commands) {
-            SixtyFive machine = on(0xAD, address);
-            machine.insert(0, 0, 7, 1);
-            machine.load(769, 8, 1);
-            machine.put(Rig.A, 9);
-            String drive = Rig.drive(machine);
-            String memory = Rig.memory(machine);
-            machine.run(1);
-            Check.equal("READ " + address, machine.get(Rig.A), 0);
-            Check.same("a READ moves no sector", Rig.drive(machine) + Rig.memory(machine), drive + memory);
-        }
-    }
-
-    private static void keyTakenBeforeAFault() {
-        // STA WIDE at 1007: b from 1008, h from 1009; KEY 0x8C leads to 0x8C8C, 140; no FAULT there.
-        // KEY 0xC3: w is 0xC3C3, modulo 1024 it is 963, PROTECTED.
-        SixtyFive machine = new SixtyFive();
-        machine.load(1007, 0x8D, 1);
-        machine.put(Rig.PC, 1007);
-        machine.put(Rig.A, 1);
-        machine.protect(true);
-        machine.press(0x43);
-        Check.equal("a WRITE with FAULT 2", Rig.step(machine), 2);
-        Check.equal("the KEY was taken", machine.get(Rig.KEY), 0);
-        Check.equal("PC stays", machine.get(Rig.PC), 1007);
-        Check.equal("nothing written", machine.peek(963), 0);
+        Check.equal("C is its bit 7", look.get(Rig.FLAGS), Rig.ONES + Rig.C_BIT);
+        SixtyFive load = Rig.wide(0xEE, 1011);
+        load.insert(0, 31, 99, 1);
+        load.run(1);
+        Check.equal("INC 1011 is a WRITE, too", load.peek(799), 99);
+        Check.equal("of 0 plus 1", load.get(Rig.FLAGS), Rig.ONES);
+        SixtyFive store = Rig.wide(0xCE, 1012);
+        store.load(799, 98, 1);
+        store.run(1);
+        Check.equal("DEC 1012 is a WRITE, too", store.sector(0, 31), 98);
+        Check.equal("of 0 minus 1", store.get(Rig.FLAGS), Rig.ONES + Rig.N_BIT);
     }
 }

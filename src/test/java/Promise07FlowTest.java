@@ -1,129 +1,108 @@
-/** Promise 7: branches, jumps, calls and the stack. */
+/** Promise 7: branches and jumps. Calls are in Promise07StackTest, CODE 108 in Promise11OrderTest. */
 public final class Promise07FlowTest {
+    private static final String[] BRANCHES = {"N is 0", "N is 1", "V is 0", "V is 1", "C is 0", "C is 1", "Z is 0",
+        "Z is 1"};
+
     public static void main(String[] args) {
         branches();
         distances();
+        aroundTheEnds();
+        notTaken();
+        branchesReadB();
         jumps();
-        calls();
-        callsAtTheEdges();
-        stack();
         Check.finish();
     }
 
     private static void branches() {
+        Check.sentence("M 4, K 0 .. 7: if N is 0, N is 1, V is 0, V is 1, C is 0, C is 1, Z is 0, Z is 1");
         int[] bits = {Rig.N_BIT, Rig.V_BIT, Rig.C_BIT, Rig.Z_BIT};
         for (int k = 0; k < 8; k++) {
             for (int flags = 0; flags <= 255; flags++) {
                 SixtyFive machine = Rig.with(k * 32 + 16, 20);
                 machine.put(Rig.FLAGS, flags);
                 boolean taken = ((flags & bits[k / 2]) != 0) == (k % 2 == 1);
-                Check.equal("branch " + k + " with flags " + flags, machine.run(1), taken ? 534 : 514);
-                Check.equal("flags stay", machine.get(Rig.FLAGS), flags & 0xC3 | 48);
+                Check.equal("if " + BRANCHES[k] + " with flags " + flags, machine.run(1), taken ? 534 : 514);
+                Check.equal("the flags stay", machine.get(Rig.FLAGS), flags & 0xC3 | 48);
             }
         }
     }
 
+    /** A machine at the branch K with flags by which it is taken, or not. */
+    private static SixtyFive branch(int k, int b, int place, boolean taken) {
+        SixtyFive machine = Rig.at(place, k * 32 + 16, b);
+        machine.put(Rig.FLAGS, taken == (k % 2 == 1) ? 255 : 0);
+        return machine;
+    }
+
     private static void distances() {
+        Check.sentence("PC moves on by b taken with sign");
+        int[][] rows = {{0, 514}, {1, 515}, {126, 640}, {127, 641}, {128, 386}, {129, 387}, {253, 511}, {254, 512},
+            {255, 513}};
+        for (int k = 0; k < 8; k++) {
+            for (int[] row : rows) {
+                Check.equal("if " + BRANCHES[k] + ", b " + row[0], branch(k, row[0], 512, true).run(1), row[1]);
+            }
+        }
         for (int b = 0; b <= 255; b++) {
-            SixtyFive middle = Rig.with(0x90, b);
-            int signed = b < 128 ? b : b - 256;
-            Check.equal("BCC by " + signed, middle.run(1), 514 + signed);
-            SixtyFive low = new SixtyFive();
-            Rig.bytes(low, 0, 0x90, b);
-            low.put(Rig.PC, 0);
-            Check.equal("BCC at 0 by " + signed, low.run(1), Math.floorMod(2 + signed, 1024));
-            SixtyFive high = new SixtyFive();
-            Rig.bytes(high, 1006, 0x90, b);
-            high.put(Rig.PC, 1006);
-            Check.equal("BCC at 1006 by " + signed, high.run(1), (1008 + signed) % 1024);
+            Check.equal("b " + b, branch(4, b, 512, true).run(1), 514 + (b < 128 ? b : b - 256));
+        }
+    }
+
+    private static void aroundTheEnds() {
+        Check.sentence("every ADDRESS that is worked out is taken modulo 1024");
+        // Where the branch is, b, the PC after it: below 0, and behind 1023.
+        int[][] rows = {{0, 254, 0}, {0, 253, 1023}, {0, 252, 1022}, {0, 128, 898}, {126, 128, 0}, {125, 128, 1023},
+            {1006, 0, 1008}, {1006, 15, 1023}, {1006, 16, 0}, {1006, 17, 1}, {1006, 127, 111}, {894, 127, 1023},
+            {895, 127, 0}, {254, 0, 256}, {254, 255, 255}};
+        for (int k = 0; k < 8; k++) {
+            for (int[] row : rows) {
+                Check.equal("at " + row[0] + ", b " + row[1], branch(k, row[1], row[0], true).run(1), row[2]);
+                Check.equal("not taken at " + row[0], branch(k, row[1], row[0], false).run(1), row[0] + 2);
+            }
+        }
+    }
+
+    private static void notTaken() {
+        Check.sentence("PC is behind all of them when it is done");
+        for (int k = 0; k < 8; k++) {
+            for (int b = 0; b <= 255; b += 51) {
+                SixtyFive machine = branch(k, b, 512, false);
+                int[] due = Rig.row(machine);
+                machine.run(1);
+                due[Rig.PC] = 514;
+                due[Rig.DONE] = 1;
+                Check.same("not if " + BRANCHES[k], Rig.registers(machine), Rig.text(due));
+            }
+        }
+    }
+
+    private static void branchesReadB() {
+        Check.sentence("0, 1 or 2 bytes behind it: b, and h (all READ)");
+        // The KEY as a branch at 1008, K 4 .. 7, has b at 1009.
+        for (int k = 4; k < 8; k++) {
+            for (int taken = 0; taken <= 1; taken++) {
+                int code = k * 32 + 16;
+                SixtyFive machine = Rig.at(1008);
+                machine.press(code - 128);
+                machine.put(Rig.FLAGS, (taken == 1) == (k % 2 == 1) ? 255 : 0);
+                int due = taken == 1 ? 1010 + code - 256 : 1010;
+                Check.equal("if " + BRANCHES[k] + " at 1008", machine.run(1), due);
+                Check.equal("b was READ, taken or not", machine.get(Rig.KEY), 0);
+            }
         }
     }
 
     private static void jumps() {
-        int[] words = {0, 1, 255, 256, 767, 1007, 1023, 1024, 1535, 0xFFFF};
+        Check.sentence("K 2, M 3: PC is w.");
+        int[] words = {0, 1, 255, 256, 767, 1007, 1008, 1022, 1023, 1024, 1025, 1535, 2047, 2048, 65534, 65535};
         for (int word : words) {
-            SixtyFive machine = Rig.with(0x4C, word % 256, word / 256);
+            SixtyFive machine = Rig.wide(0x4C, word);
             Check.equal("JMP " + word, machine.run(1), word % 1024);
-            Check.equal("S stays", machine.get(Rig.S), 255);
+            Check.same("nothing else moves", Rig.registers(machine), "0 0 0 255 " + word % 1024 + " 48 1 0 0 0");
         }
-    }
-
-    private static void calls() {
-        SixtyFive machine = Rig.with(0x20, 0x34, 0x03, 0xEA);
-        machine.load(0x334, 0x60, 1);
-        Check.equal("JSR", machine.run(1), 0x334);
-        Check.equal("S", machine.get(Rig.S), 253);
-        Check.equal("the number / 256 first", machine.peek(511), 2);
-        Check.equal("then the rest", machine.peek(510), 2);
-        Check.equal("RTS", machine.run(1), 515);
-        Check.equal("S", machine.get(Rig.S), 255);
-        Check.equal("flags stay", machine.get(Rig.FLAGS), 48);
-        SixtyFive far = new SixtyFive();
-        Rig.bytes(far, 0x2FE, 0x20, 0x00, 0xFF);
-        far.put(Rig.PC, 0x2FE);
-        Check.equal("JSR over a page, w modulo 1024", far.run(1), 0x300);
-        Check.equal("the number / 256 of the last byte", far.peek(511), 3);
-        Check.equal("the rest of it", far.peek(510), 0);
-    }
-
-    private static void callsAtTheEdges() {
-        // The KEY 0xA0 gives b at 1008 and h at 1009: w is 0xA0A0.
-        SixtyFive cells = new SixtyFive();
-        cells.load(1007, 0x20, 1);
-        cells.put(Rig.PC, 1007);
-        cells.press(0x20);
-        Check.equal("JSR at 1007", cells.run(1), 0xA0A0 % 1024);
-        Check.equal("the last byte is at 1009", cells.peek(511) * 256 + cells.peek(510), 1009);
-        Check.equal("the KEY was taken", cells.get(Rig.KEY), 0);
-        // With S 0 the two bytes go to 256 and 511.
-        SixtyFive around = Rig.with(0x20, 0x00, 0x03);
-        around.put(Rig.S, 0);
-        around.run(1);
-        Check.equal("at 256", around.peek(256), 2);
-        Check.equal("at 511", around.peek(511), 2);
-        Check.equal("S around", around.get(Rig.S), 254);
-        // RTS from 1023 leads to 0, and beyond 1023 it is modulo 1024.
-        SixtyFive back = Rig.with(0x60);
-        back.put(Rig.S, 0x10);
-        Rig.bytes(back, 0x111, 0xFF, 0x03);
-        Check.equal("RTS to 1024", back.run(1), 0);
-        SixtyFive big = Rig.with(0x60);
-        big.put(Rig.S, 0xFE);
-        big.load(511, 0xFE, 1);
-        big.load(256, 0xFF, 1);
-        Check.equal("RTS around the stack, modulo 1024", big.run(1), 1023);
-        Check.equal("S", big.get(Rig.S), 0);
-        // A JSR on the stack writes over itself, but its bytes were READ before.
-        SixtyFive self = new SixtyFive();
-        Rig.bytes(self, 0x1F0, 0x20, 0x34, 0x02);
-        self.put(Rig.PC, 0x1F0);
-        self.put(Rig.S, 0xF2);
-        Check.equal("JSR over itself", self.run(1), 0x234);
-        Check.equal("written over", self.peek(0x1F2), 1);
-        Check.equal("written over", self.peek(0x1F1), 0xF2);
-    }
-
-    private static void stack() {
-        for (int value = 0; value <= 255; value++) {
-            SixtyFive machine = Rig.with(0x48, 0x08, 0x28, 0x68);
-            machine.put(Rig.A, value);
-            machine.put(Rig.FLAGS, 255 - value);
-            machine.put(Rig.S, value);
-            machine.run(2);
-            int second = 256 + (value + 255) % 256;
-            Check.equal("PHA", machine.peek(256 + value), value);
-            Check.equal("PHP", machine.peek(second), (255 - value) & 0xC3 | 48);
-            Check.equal("S falls", machine.get(Rig.S), (value + 254) % 256);
-            Check.equal("flags stay", machine.get(Rig.FLAGS), (255 - value) & 0xC3 | 48);
-            machine.load(second, value, 1);
-            machine.run(1);
-            Check.equal("PLP", machine.get(Rig.FLAGS), value & 0xC3 | 48);
-            machine.put(Rig.A, 77);
-            machine.run(1);
-            Check.equal("PLA", machine.get(Rig.A), value);
-            Check.equal("PLA sets N and Z", machine.get(Rig.FLAGS),
-                    value & 0x41 | 48 | (value & 128) | (value == 0 ? 2 : 0));
-            Check.equal("S rises", machine.get(Rig.S), value);
-        }
+        SixtyFive edge = Rig.at(1007, 0x4C);
+        edge.press(1);
+        Check.equal("w from the CELLS: the KEY twice", edge.run(1), 0x8181 % 1024);
+        Check.equal("it was taken at 1009", edge.get(Rig.KEY), 0);
     }
 }

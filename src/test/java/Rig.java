@@ -1,6 +1,10 @@
+import java.util.function.IntUnaryOperator;
+import java.util.function.Supplier;
+
 /**
- * Makes machines with programs in them and looks at all that they show. A look at the whole memory
- * takes more than the 512 calls that the document promises; this program answers them all the same.
+ * Makes machines with programs in them and looks at all that they show. The document promises 512
+ * calls of one object, and a look at everything takes more: such a look makes the same machine anew
+ * for each part of it.
  */
 final class Rig {
     static final int A = 0;
@@ -21,6 +25,13 @@ final class Rig {
     /** The two bits of the flags' byte that are always 1. */
     static final int ONES = 48;
 
+    /** The bytes of MEMORY that are no CELLS. */
+    static final int OPEN = 1008;
+    /** The bytes of all SECTORS. */
+    static final int DRIVE = 256;
+    /** How many places one machine shows in a look; it may have had 200 calls before. */
+    private static final int PART = 300;
+
     private Rig() {
     }
 
@@ -31,16 +42,72 @@ final class Rig {
         return machine;
     }
 
+    /** A new machine whose PC is there, with these bytes from there on. */
+    static SixtyFive at(int address, int... program) {
+        SixtyFive machine = new SixtyFive();
+        bytes(machine, address, program);
+        machine.put(PC, address);
+        return machine;
+    }
+
+    /** A new machine with this code and the two bytes of the word behind it. */
+    static SixtyFive wide(int code, int word) {
+        return with(code, word % 256, word / 256);
+    }
+
     static void bytes(SixtyFive machine, int address, int... values) {
-        for (int i = 0; i < values.length; i++) {
-            machine.load(address + i, values[i], 1);
+        for (int i = 0; i < values.length; i += 8) {
+            int count = Math.min(8, values.length - i);
+            machine.load(address + i, packed(values, i, count), count);
         }
     }
 
     static void sectorBytes(SixtyFive machine, int sector, int... values) {
-        for (int i = 0; i < values.length; i++) {
-            machine.insert(sector, i, values[i], 1);
+        for (int i = 0; i < values.length; i += 8) {
+            int count = Math.min(8, values.length - i);
+            machine.insert(sector, i, packed(values, i, count), count);
         }
+    }
+
+    private static long packed(int[] values, int from, int count) {
+        long bytes = 0;
+        for (int i = 0; i < count; i++) {
+            bytes = bytes << 8 | values[from + i] & 255;
+        }
+        return bytes;
+    }
+
+    /** Loads all open MEMORY, each byte by its address. */
+    static void fillMemory(SixtyFive machine, IntUnaryOperator byteAt) {
+        bytes(machine, 0, java.util.stream.IntStream.range(0, OPEN).map(byteAt).toArray());
+    }
+
+    /** Fills all SECTORS, each byte by 32 times its sector plus its place. */
+    static void fillDrive(SixtyFive machine, IntUnaryOperator byteAt) {
+        for (int sector = 0; sector < 8; sector++) {
+            sectorBytes(machine, sector,
+                    java.util.stream.IntStream.range(sector * 32, sector * 32 + 32).map(byteAt).toArray());
+        }
+    }
+
+    /** A machine of which nothing is any more as it was at first. */
+    static SixtyFive used() {
+        SixtyFive machine = new SixtyFive();
+        fillMemory(machine, address -> address * 7 % 255 + 1);
+        fillDrive(machine, place -> place * 11 % 255 + 1);
+        // STA 1010, then a code that is no instruction.
+        bytes(machine, 512, 0x8D, 0xF2, 0x03, 0x03);
+        machine.put(A, 6);
+        step(machine);
+        step(machine);
+        machine.put(A, 101);
+        machine.put(X, 102);
+        machine.put(Y, 103);
+        machine.put(S, 104);
+        machine.put(FLAGS, N_BIT + C_BIT);
+        machine.press(77);
+        machine.protect(true);
+        return machine;
     }
 
     /** Runs one instruction; answers the number of its fault, 0 without one. */
@@ -59,36 +126,53 @@ final class Rig {
         }
     }
 
-    static String registers(SixtyFive machine) {
-        StringBuilder text = new StringBuilder();
+    /** What get answers, for 0 .. 9. */
+    static int[] row(SixtyFive machine) {
+        int[] row = new int[10];
         for (int what = 0; what <= 9; what++) {
-            text.append(what == 0 ? "" : " ").append(machine.get(what));
+            row[what] = machine.get(what);
+        }
+        return row;
+    }
+
+    static String text(int... row) {
+        StringBuilder text = new StringBuilder();
+        for (int value : row) {
+            text.append(text.length() == 0 ? "" : " ").append(value);
         }
         return text.toString();
     }
 
-    static String memory(SixtyFive machine) {
-        StringBuilder text = new StringBuilder();
-        for (int address = 0; address <= 1007; address++) {
-            text.append(' ').append(machine.peek(address));
-        }
-        return text.toString();
+    static String registers(SixtyFive machine) {
+        return text(row(machine));
     }
 
-    static String drive(SixtyFive machine) {
-        StringBuilder text = new StringBuilder();
-        for (int sector = 0; sector < 8; sector++) {
-            for (int at = 0; at < 32; at++) {
-                text.append(' ').append(machine.sector(sector, at));
-            }
+    static int[] memory(Supplier<SixtyFive> maker) {
+        int[] bytes = new int[OPEN];
+        SixtyFive machine = null;
+        for (int address = 0; address < OPEN; address++) {
+            machine = address % PART == 0 ? maker.get() : machine;
+            bytes[address] = machine.peek(address);
         }
-        return text.toString();
+        return bytes;
+    }
+
+    static int[] drive(Supplier<SixtyFive> maker) {
+        int[] bytes = new int[DRIVE];
+        SixtyFive machine = maker.get();
+        for (int place = 0; place < DRIVE; place++) {
+            bytes[place] = machine.sector(place / 32, place % 32);
+        }
+        return bytes;
+    }
+
+    /** All that peek, sector and protect show. */
+    static String kept(Supplier<SixtyFive> maker) {
+        return maker.get().protect(false) + " / " + text(memory(maker)) + " / " + text(drive(maker));
     }
 
     /** All that get, peek, sector and protect show. */
-    static String state(SixtyFive machine) {
-        boolean on = machine.protect(false);
-        machine.protect(on);
-        return registers(machine) + " / " + on + " /" + memory(machine) + " /" + drive(machine);
+    static String state(Supplier<SixtyFive> maker) {
+        return registers(maker.get()) + " / " + kept(maker);
     }
 }
