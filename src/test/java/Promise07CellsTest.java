@@ -145,14 +145,30 @@ public final class Promise07CellsTest {
                 Check.equal("PC", machine.get(Rig.PC), value < 8 ? 515 : 512);
             }
         }
+        int[] right = {0, 5, 7};
+        for (int value : right) {
+            Supplier<SixtyFive> chosen = () -> {
+                SixtyFive machine = choosing(value);
+                machine.run(1);
+                return machine;
+            };
+            int[] due = Rig.row(choosing(value));
+            due[Rig.PC] = 515;
+            due[Rig.DONE]++;
+            due[Rig.SECTOR] = value;
+            Check.same("STA 1010 with " + value + " moves the number", Rig.registers(chosen.get()), Rig.text(due));
+            Check.same("and no byte", Rig.kept(chosen), Rig.kept(() -> choosing(value)));
+        }
         int[] wrong = {8, 9, 128, 255};
         for (int value : wrong) {
-            Check.faults("STA 1010 with " + value, () -> {
-                SixtyFive machine = full(0x8D, 1010);
-                machine.put(Rig.A, value);
-                return machine;
-            }, 3);
+            Check.faults("STA 1010 with " + value, () -> choosing(value), 3);
         }
+    }
+
+    private static SixtyFive choosing(int value) {
+        SixtyFive machine = full(0x8D, 1010);
+        machine.put(Rig.A, value);
+        return machine;
     }
 
     private static void changingTheNumber() {

@@ -79,10 +79,14 @@ public final class Promise07EdgesTest {
         Check.sentence("K 0: A or OPERAND; 1: and; 2: exclusive or: A is that, SET A");
         runs(0x09, 0, Rig.A, to(0, N + C), to(0, Z + C));
         runs(0x09, 0x80, Rig.A, to(0x7F, V), to(0xFF, N + V));
+        runs(0x09, 0x66, Rig.A, to(0x3C, N + Z), to(0x7E, 0));
+        runs(0x09, 0xFF, Rig.A, to(0xFF, Z), to(0xFF, N));
         runs(0x29, 0x80, Rig.A, to(0x7F, N + V + C), to(0, Z + V + C));
         runs(0x29, 0x80, Rig.A, to(0xFF, Z), to(0x80, N));
+        runs(0x29, 0x66, Rig.A, to(0x3C, N + Z), to(0x24, 0));
         runs(0x49, 0xFF, Rig.A, to(0xFF, N), to(0, Z));
         runs(0x49, 0xFF, Rig.A, to(0x7F, V + C), to(0x80, N + V + C));
+        runs(0x49, 0x66, Rig.A, to(0x3C, N + Z), to(0x5A, 0));
     }
 
     private static void sumModulo() {

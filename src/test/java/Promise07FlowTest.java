@@ -97,8 +97,10 @@ public final class Promise07FlowTest {
         int[] words = {0, 1, 255, 256, 767, 1007, 1008, 1022, 1023, 1024, 1025, 1535, 2047, 2048, 65534, 65535};
         for (int word : words) {
             SixtyFive machine = Rig.wide(0x4C, word);
+            machine.put(Rig.X, 9);
+            machine.put(Rig.Y, 8);
             Check.equal("JMP " + word, machine.run(1), word % 1024);
-            Check.same("nothing else moves", Rig.registers(machine), "0 0 0 255 " + word % 1024 + " 48 1 0 0 0");
+            Check.same("nothing else moves", Rig.registers(machine), "0 9 8 255 " + word % 1024 + " 48 1 0 0 0");
         }
         SixtyFive edge = Rig.at(1007, 0x4C);
         edge.press(1);

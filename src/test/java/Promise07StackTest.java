@@ -134,6 +134,8 @@ public final class Promise07StackTest {
         for (int[] row : rows) {
             SixtyFive machine = Rig.at(0x2A0, 0x20, 0x34, 0x03);
             machine.put(Rig.S, row[0]);
+            machine.put(Rig.X, 9);
+            machine.put(Rig.Y, 8);
             Check.equal("CODE 32 with S " + row[0], machine.run(1), 0x334);
             Check.equal("the number / 256", machine.peek(row[1]), 0x02);
             Check.equal("the rest", machine.peek(row[2]), 0xA2);

@@ -24,8 +24,10 @@ public final class Promise11OrderTest {
         Check.sentence("CODE 108: PC is what is READ at w plus 256 times what is READ at w plus 1");
         SixtyFive machine = through(100);
         machine.load(100, 0x3402L, 2);
+        machine.put(Rig.X, 9);
+        machine.put(Rig.Y, 8);
         Check.equal("PC", machine.run(1), 0x234);
-        Check.same("nothing else moves", Rig.registers(machine), "0 0 0 255 564 48 1 0 0 0");
+        Check.same("nothing else moves", Rig.registers(machine), "0 9 8 255 564 48 1 0 0 0");
         Supplier<SixtyFive> ready = () -> through(100);
         Supplier<SixtyFive> done = () -> {
             SixtyFive again = ready.get();
