@@ -13,6 +13,7 @@ public final class Promise11OrderTest {
         ownWordFromCells();
         rangeBeforeFault();
         throwingChangesNothing();
+        everyCallOfAnObject();
         Check.finish();
     }
 
@@ -176,5 +177,17 @@ public final class Promise11OrderTest {
         Check.refuses("sector(8, 0)", m -> m.sector(8, 0));
         // A FAULT changes what is said: the latest FAULT and what was done before it.
         Check.faults("FAULT 4", Rig::used, 4);
+    }
+
+    private static void everyCallOfAnObject() {
+        Check.sentence("An object is used for at most 512 calls after it has been made");
+        // JMP to itself; 510 calls, of which a third throws, then the last two.
+        SixtyFive machine = Rig.wide(0x4C, 512);
+        for (int i = 0; i < 170; i++) {
+            Check.equal("run(20)", machine.run(20), 512);
+            Check.equal("load", machine.load(i, i + 1, 1), i + 1);
+            Check.fails("run(21)", IllegalArgumentException.class, () -> machine.run(21));
+        }
+        Check.equal("the 512th call", machine.get(Rig.DONE), 3400);
     }
 }
